@@ -49,7 +49,6 @@ public final class KiteWar {
     private final History history;
     private final Umpire umpire;
     private final Lines lines;
-    private final StringBuilder text;
     private final Orders orders;
     private final StringBuilder line;
     private int latestReason;
@@ -62,9 +61,8 @@ public final class KiteWar {
         hasSaved = false;
         history = new History();
         lines = new Lines();
-        umpire = new Umpire(lines);
-        text = new StringBuilder();
-        orders = new Orders(text);
+        umpire = new Umpire();
+        orders = new Orders();
         line = new StringBuilder();
         latestReason = NOTHING;
         latestDetail = NOTHING;
@@ -292,16 +290,16 @@ public final class KiteWar {
         if (code < 32 || code > 126) {
             return BAD;
         }
-        if (text.length() >= MOST_CHARACTERS) {
+        if (orders.text.length() >= MOST_CHARACTERS) {
             return FULL;
         }
-        text.append((char) code);
-        return text.length();
+        orders.text.append((char) code);
+        return orders.text.length();
     }
 
     public int run() {
         orders.readAll();
-        text.setLength(0);
+        orders.text.setLength(0);
         if (orders.isWrong) {
             return FAULT - orders.at;
         }
@@ -395,7 +393,7 @@ public final class KiteWar {
             case 15:
                 return now.movesNotDone;
             case 16:
-                return text.length();
+                return orders.text.length();
             case 17:
                 return history.count;
             default:
@@ -1097,8 +1095,8 @@ public final class KiteWar {
         private final boolean[] isCut;
         private final int[] cutByIt;
 
-        Umpire(Lines lines) {
-            this.lines = lines;
+        Umpire() {
+            lines = new Lines();
             flight = new Flight();
             isCut = new boolean[MOST_KITES];
             cutByIt = new int[MOST_KITES];
@@ -1229,20 +1227,20 @@ public final class KiteWar {
         int second;
     }
 
-    /** Reads the text; behind the first fault it takes nothing more, so that its position stays. */
+    /** The text and what it orders; behind the first fault nothing more is read, so that its position stays. */
     private static final class Orders {
         /** One more than 60 characters hold: behind the last ";" an order is still looked for. */
         private static final int MOST_ORDERS = 13;
         private static final int END = -1;
 
+        final StringBuilder text;
         final Order[] all;
         int count;
         int at;
         boolean isWrong;
-        private final StringBuilder text;
 
-        Orders(StringBuilder text) {
-            this.text = text;
+        Orders() {
+            text = new StringBuilder();
             all = new Order[MOST_ORDERS];
             for (int order = 0; order < MOST_ORDERS; order++) {
                 all[order] = new Order();

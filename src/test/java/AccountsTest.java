@@ -206,6 +206,37 @@ public final class AccountsTest {
         Check.due("seen(0, 1)", war.seen(0, 1), 21);
     }
 
+    /** What the snapshot holds comes back in place of what took its number. */
+    private static void snapshotInPlace() {
+        KiteWar war = new KiteWar();
+        war.tower(0, 18, 4);
+        war.kite(0, 5);
+        war.wind(4, 1);
+        war.slip(0, 1, 3);
+        war.save();
+        for (int left = 3; left >= 0; left--) {
+            war.undo();
+        }
+        war.tower(1, 20, 2);
+        war.tower(0, 10, 3);
+        war.kite(1, 9);
+        war.wind(2, 3);
+        war.slip(0, 1, 1);
+        war.turn(1);
+        war.restore();
+        int[] tower = {0, 18, 4, 1, 0, 0};
+        for (int what = 0; what < tower.length; what++) {
+            Check.due("towerOf(0, " + what + ")", war.towerOf(0, what), tower[what]);
+        }
+        int[] kite = {0, 0, 0, KiteWar.NOTHING, 0, 18, 5, 0, 0};
+        for (int what = 0; what < kite.length; what++) {
+            Check.due("kiteOf(0, " + what + ")", war.kiteOf(0, what), kite[what]);
+        }
+        Check.due("seen(0, 0)", war.seen(0, 0), 31);
+        Check.due("windNow(false)", war.windNow(false), 4);
+        Check.due("windNow(true)", war.windNow(true), 1);
+    }
+
     public static void main(String[] args) {
         reasons();
         allAccounts();
@@ -215,6 +246,7 @@ public final class AccountsTest {
         undoneEight();
         undoneTurn();
         snapshots();
+        snapshotInPlace();
         Check.end();
     }
 }

@@ -47,6 +47,20 @@ public final class ForecastTest {
         pairs(war, 1);
     }
 
+    /** Two lines turn into each other, over two hexagons, which is still one pair. */
+    private static void onePairInManyHexagons() {
+        KiteWar war = new KiteWar();
+        Check.flying(war, 0, 16, 5, 5, 3);
+        Check.flying(war, 1, 20, 5, 2, 2);
+        war.slip(0, 4, 0);
+        pairs(war, 0);
+        war.slip(1, 4, 0);
+        pairs(war, 1);
+        Check.due("turn(1)", war.turn(1), 2);
+        Check.due("kiteOf(0, 8)", war.kiteOf(0, 8), 1);
+        Check.due("kiteOf(1, 5)", war.kiteOf(1, 5), 18);
+    }
+
     /** What a slip can't do it does not do in the forecast, either. */
     private static void notDone() {
         KiteWar war = new KiteWar();
@@ -176,6 +190,7 @@ public final class ForecastTest {
     public static void main(String[] args) {
         crossing();
         manyHexagons();
+        onePairInManyHexagons();
         notDone();
         drifting();
         driftingOverTowers();
