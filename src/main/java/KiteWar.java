@@ -647,11 +647,10 @@ public final class KiteWar {
         }
     }
 
-    private boolean isSound(Kite kite) {
+    private static boolean isSound(Kite kite) {
         if (kite.how == FLIES) {
-            Tower home = now.towers[kite.tower];
-            int end = Field.walk(home.hexagon, kite.direction, kite.length);
-            return kite.length >= 1 && kite.length <= home.reach && end != Field.OUT && kite.strength >= 0;
+            int end = Field.walk(kite.home, kite.direction, kite.length);
+            return kite.length >= 1 && kite.length <= kite.reach && end != Field.OUT && kite.strength >= 0;
         }
         return kite.how != RESTS || kite.strength >= 0;
     }
@@ -753,10 +752,12 @@ public final class KiteWar {
         }
     }
 
-    /** A kite with its slip; of a lost one the hexagon says nothing. */
+    /** A kite with its slip, and what of its tower never changes; of a lost one the hexagon says nothing. */
     private static final class Kite {
         int side;
         int tower;
+        int home;
+        int reach;
         int how;
         int direction;
         int length;
@@ -770,6 +771,8 @@ public final class KiteWar {
         void copyFrom(Kite other) {
             side = other.side;
             tower = other.tower;
+            home = other.home;
+            reach = other.reach;
             how = other.how;
             direction = other.direction;
             length = other.length;
@@ -784,6 +787,14 @@ public final class KiteWar {
         void forgetSlip() {
             move = NO_MOVE;
             moveDirection = 0;
+        }
+
+        /** Lets the kite fly on a line; with a length of 0 it rests at its tower. */
+        void holdAt(int newDirection, int newLength) {
+            how = newLength > 0 ? FLIES : RESTS;
+            direction = newLength > 0 ? newDirection : 0;
+            length = newLength;
+            hexagon = Field.walk(home, newDirection, newLength);
         }
 
         /** The kite stays in its hexagon and keeps its strength. */
@@ -863,12 +874,14 @@ public final class KiteWar {
         }
 
         int addKite(int tower, int strength) {
-            if (kiteCount >= MOST_KITES) {
+            if (tower < 0 || tower >= towerCount || kiteCount >= MOST_KITES) {
                 return NONE;
             }
             Kite brought = kites[kiteCount];
             brought.side = towers[tower].side;
             brought.tower = tower;
+            brought.home = towers[tower].hexagon;
+            brought.reach = towers[tower].reach;
             brought.hexagon = towers[tower].hexagon;
             brought.strength = strength;
             kiteCount++;
@@ -954,14 +967,6 @@ public final class KiteWar {
             }
             return found;
         }
-
-        /** Lets a kite fly on a line; with a length of 0 it rests at its tower. */
-        void place(Kite kite, int direction, int length) {
-            kite.how = length > 0 ? FLIES : RESTS;
-            kite.direction = length > 0 ? direction : 0;
-            kite.length = length;
-            kite.hexagon = Field.walk(towers[kite.tower].hexagon, direction, length);
-        }
     }
 
     /** How a line is once the slip of its kite is carried out. */
@@ -970,12 +975,11 @@ public final class KiteWar {
         int length;
         boolean isDone;
 
-        void plan(State war, Kite kite) {
+        void plan(Kite kite) {
             direction = kite.direction;
             length = kite.length;
             move(kite);
-            Tower home = war.towers[kite.tower];
-            isDone = length <= home.reach && Field.walk(home.hexagon, direction, length) != Field.OUT;
+            isDone = length <= kite.reach && Field.walk(kite.home, direction, length) != Field.OUT;
             if (!isDone) {
                 direction = kite.direction;
                 length = kite.length;
@@ -1025,24 +1029,25 @@ public final class KiteWar {
         void drawAsTheyAre(State war) {
             for (int kite = 0; kite < war.kiteCount; kite++) {
                 Kite drawn = war.kites[kite];
-                draw(war, kite, drawn.direction, drawn.length);
+                covered[kite] = hexagonsOf(drawn.home, drawn.direction, drawn.length);
             }
         }
 
         void drawBySlips(State war) {
             for (int kite = 0; kite < war.kiteCount; kite++) {
-                flight.plan(war, war.kites[kite]);
-                draw(war, kite, flight.direction, flight.length);
+                Kite drawn = war.kites[kite];
+                flight.plan(drawn);
+                covered[kite] = hexagonsOf(drawn.home, flight.direction, flight.length);
             }
         }
 
-        private void draw(State war, int kite, int direction, int length) {
-            int home = war.towers[war.kites[kite].tower].hexagon;
-            covered[kite] = 0L;
+        private static long hexagonsOf(int home, int direction, int length) {
+            long hexagons = 0L;
             for (int step = 1; step <= length; step++) {
                 int hexagon = Field.walk(home, direction, step);
-                covered[kite] |= hexagon == Field.OUT ? 0L : 1L << hexagon;
+                hexagons |= hexagon == Field.OUT ? 0L : 1L << hexagon;
             }
+            return hexagons;
         }
 
         boolean doesCover(int kite, int hexagon) {
@@ -1121,9 +1126,9 @@ public final class KiteWar {
             for (int index = 0; index < war.kiteCount; index++) {
                 Kite kite = war.kites[index];
                 if (kite.move != NO_MOVE) {
-                    flight.plan(war, kite);
+                    flight.plan(kite);
                     war.movesNotDone += flight.isDone ? 0 : 1;
-                    war.place(kite, flight.direction, flight.length);
+                    kite.holdAt(flight.direction, flight.length);
                     kite.forgetSlip();
                 }
             }
@@ -1138,7 +1143,7 @@ public final class KiteWar {
                 if (kite.direction == direction) {
                     kite.strength = Math.max(0, kite.strength - force);
                 } else if (force >= 2 && kite.direction == (direction + DIRECTIONS / 2) % DIRECTIONS) {
-                    war.place(kite, kite.direction, kite.length - 1);
+                    kite.holdAt(kite.direction, kite.length - 1);
                 }
             }
         }
@@ -1207,7 +1212,7 @@ public final class KiteWar {
             if (taker.side == kite.side) {
                 war.takenByOwn++;
                 kite.strength = 1;
-                war.place(kite, 0, 0);
+                kite.holdAt(0, 0);
             } else {
                 war.takenByOther++;
                 kite.how = IS_LOST;
