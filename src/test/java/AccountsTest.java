@@ -218,7 +218,7 @@ public final class AccountsTest {
             war.undo();
         }
         war.tower(1, 20, 2);
-        war.tower(0, 10, 3);
+        war.tower(0, 10, 1);
         war.kite(1, 9);
         war.wind(2, 3);
         war.slip(0, 1, 1);
@@ -235,6 +235,10 @@ public final class AccountsTest {
         Check.due("seen(0, 0)", war.seen(0, 0), 31);
         Check.due("windNow(false)", war.windNow(false), 4);
         Check.due("windNow(true)", war.windNow(true), 1);
+        war.turn(1);
+        war.slip(0, 2, 0);
+        war.turn(1);
+        Check.due("the kite 0", Check.kiteLine(war, 0), "k0 flies 3x2 s5");
     }
 
     public static void main(String[] args) {

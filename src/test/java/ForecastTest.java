@@ -1,8 +1,11 @@
 /** Promises 15 to 19: what there is, and would be. */
 public final class ForecastTest {
+    /** A row is told between the two, so that neither lives on what the other one has found. */
     private static void pairs(KiteWar war, int due) {
         Check.due("crossings()", war.crossings(), due);
+        war.tell(3);
         Check.due("crossingsAgain()", war.crossingsAgain(), due);
+        war.tell(3);
     }
 
     private static void crossing() {
