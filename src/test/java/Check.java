@@ -1,21 +1,30 @@
 /** What all tests share: telling wrong answers, and calls that go by whole texts. */
 final class Check {
     private static int wrong = 0;
+    private static String sentence = "";
 
     private Check() {
     }
 
+    /** Names the sentence of the document that the following answers are about. */
+    static void sentence(String words) {
+        sentence = words;
+    }
+
+    private static void tellWrong(String answer) {
+        wrong++;
+        System.out.println(answer + (sentence.isEmpty() ? "" : ", by: " + sentence));
+    }
+
     static void due(String call, double got, double want) {
         if (got != want) {
-            wrong++;
-            System.out.println(call + " answered " + got + ", due is " + want);
+            tellWrong(call + " answered " + got + ", due is " + want);
         }
     }
 
     static void due(String call, String got, String want) {
         if (!got.equals(want)) {
-            wrong++;
-            System.out.println(call + " answered \"" + got + "\", due is \"" + want + "\"");
+            tellWrong(call + " answered \"" + got + "\", due is \"" + want + "\"");
         }
     }
 
@@ -59,10 +68,41 @@ final class Check {
         return line;
     }
 
+    static void numbersOfKite(KiteWar war, int kite, int... due) {
+        for (int what = 0; what < due.length; what++) {
+            due("kiteOf(" + kite + ", " + what + ")", war.kiteOf(kite, what), due[what]);
+        }
+    }
+
+    static void numbersOfTower(KiteWar war, int tower, int... due) {
+        for (int what = 0; what < due.length; what++) {
+            due("towerOf(" + tower + ", " + what + ")", war.towerOf(tower, what), due[what]);
+        }
+    }
+
+    static void accounts(KiteWar war, int... due) {
+        for (int what = 0; what < due.length; what++) {
+            due("account(" + what + ")", war.account(what), due[what]);
+        }
+    }
+
     static void refused(String call, KiteWar war, int got, int reason, int detail) {
         due(call, got, KiteWar.REFUSED);
         due("the reason of " + call, war.reason(false), reason);
         due("the detail of " + call, war.reason(true), detail);
+    }
+
+    /** A kite at rest with a tower of its own. */
+    static KiteWar alone(int side, int hexagon, int reach, int strength) {
+        KiteWar war = new KiteWar();
+        war.kite(war.tower(side, hexagon, reach), strength);
+        return war;
+    }
+
+    /** A slip that is carried out at once. */
+    static void order(KiteWar war, int kite, int move, int direction) {
+        war.slip(kite, move, direction);
+        war.turn(1);
     }
 
     /** A tower with a kite that flies in a direction, at the cost of as many turns as the line is long. */

@@ -67,8 +67,8 @@ public final class FieldTest {
     }
 
     private static void distances() {
-        KiteWar war = new KiteWar();
         for (int one = 0; one < 37; one++) {
+            KiteWar war = new KiteWar();
             for (int other = 0; other < 37; other++) {
                 int down = Math.abs(drawnRow(one) - drawnRow(other));
                 int across = Math.abs(drawnAcross(one) - drawnAcross(other));
@@ -77,6 +77,7 @@ public final class FieldTest {
                 Check.due("apartAgain(" + one + ", " + other + ")", war.apartAgain(one, other), due);
             }
         }
+        KiteWar war = new KiteWar();
         int[] outside = {-1, 37, Integer.MIN_VALUE, Integer.MAX_VALUE};
         for (int number : outside) {
             Check.due("apart(" + number + ", 0)", war.apart(number, 0), KiteWar.NONE);

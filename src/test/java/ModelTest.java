@@ -1,9 +1,13 @@
 import java.util.Random;
 
-/** All promises: long runs of calls, always the same ones, answered as the model answers them. */
+/** All promises: runs of calls, always the same ones, answered as the model answers them. */
 public final class ModelTest {
-    private static final int RUNS = 300;
-    private static final int CALLS = 512;
+    private static final int RUNS = 12000;
+    /** An object is used for at most 512 calls, of which the last ones ask for all that there is. */
+    private static final int MOST_CALLS = 512;
+    private static final int LAST_CALLS = 270;
+    /** No step makes more calls: a text of some 40 characters is the longest one. */
+    private static final int CALLS_OF_A_STEP = 50;
     private static final String[] PIECES = {"0 ", "1 ", "2 ", "3 ", "5 ", "7 ", "fly ", "out", "in",
         "left", "right", "land", "wind ", "turn ", "*", ";", ";", "0", "1", "2", "3", "5", "x", "l"};
     private static final int[] EDGES = {-1, 0, 6, 7, 10, 12, 37, Integer.MAX_VALUE, Integer.MIN_VALUE};
@@ -12,6 +16,7 @@ public final class ModelTest {
     private final KiteWar war = new KiteWar();
     private final Model model = new Model();
     private final String name;
+    private int calls = 0;
 
     private ModelTest(int run) {
         random = new Random(run);
@@ -19,6 +24,7 @@ public final class ModelTest {
     }
 
     private void due(String call, double got, double want) {
+        calls++;
         Check.due(name + call, got, want);
     }
 
@@ -84,6 +90,7 @@ public final class ModelTest {
     private void write() {
         int kite = number(12);
         int flies = war.kiteOf(kite, 2);
+        due("kiteOf(" + kite + ", 2)", flies, model.kiteOf(kite, 2));
         int move = random.nextInt(8) == 0 ? number(7) : flies == 0 ? 1 : 2 + random.nextInt(5);
         int direction = move == 1 || random.nextInt(20) == 0 ? number(6) : 0;
         due("slip", war.slip(kite, move, direction), model.slip(kite, move, direction));
@@ -244,17 +251,18 @@ public final class ModelTest {
             build();
             bring();
         }
-        for (int call = 8; call < CALLS; call++) {
+        int most = MOST_CALLS - LAST_CALLS - CALLS_OF_A_STEP;
+        int steps = 20 + random.nextInt(most - 20);
+        while (calls < steps) {
             if (random.nextInt(4) == 0) {
                 ask();
             } else {
                 change();
             }
-            if (call % 3 == 0) {
-                compareAll();
-                compareLines();
-            }
         }
+        compareAll();
+        compareLines();
+        Check.due(name + "whether there were too many calls", calls > MOST_CALLS ? 1 : 0, 0);
     }
 
     public static void main(String[] args) {
