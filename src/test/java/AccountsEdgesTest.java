@@ -326,6 +326,48 @@ public final class AccountsEdgesTest {
         }
     }
 
+    /** Behind another change, so that what is undone is this one alone. */
+    private static void undoneAlone(int kind) {
+        KiteWar war = Check.alone(0, 18, 4, 5);
+        war.slip(0, 1, 0);
+        war.turn(1);
+        war.slip(0, 2, 0);
+        switch (kind) {
+            case 0:
+                war.tower(1, 0, 1);
+                break;
+            case 1:
+                war.kite(0, 5);
+                break;
+            case 2:
+                war.wind(0, 1);
+                break;
+            case 3:
+                war.slip(0, 3, 0);
+                break;
+            case 4:
+                war.tear(0);
+                break;
+            case 5:
+                war.turn(1);
+                break;
+            default:
+                Check.carryOut(war, "wind 0*1;turn 1;0 in");
+        }
+        Check.due("account(17) behind the change " + kind, war.account(17), 6);
+        Check.due("undo() of the change " + kind, war.undo(), 5);
+        Check.accounts(war, 1, 1, 1, 0, 1, 0, 0, 1, 0, 0, 0, 0, 0, 0, 0, 0, 0, 5);
+        Check.due("seen(0, 0)", war.seen(0, 0), 2);
+        Check.due("the kite 0", Check.kiteLine(war, 0), "k0 flies 0x1 s5");
+    }
+
+    private static void eachChangeAlone() {
+        Check.sentence("Undoes the latest change.");
+        for (int kind = 0; kind < 7; kind++) {
+            undoneAlone(kind);
+        }
+    }
+
     private static void noChanges() {
         Check.sentence("The changes are the successful calls of tower, kite, wind, slip, tear, turn and run");
         KiteWar war = Check.alone(0, 18, 4, 5);
@@ -563,7 +605,7 @@ public final class AccountsEdgesTest {
             Check.due("undo()", war.undo(), left);
         }
         war.tower(1, 20, 2);
-        war.tower(0, 10, 1);
+        war.tower(1, 10, 1);
         war.kite(1, 9);
         war.wind(2, 3);
         war.slip(0, 1, 1);
@@ -614,6 +656,7 @@ public final class AccountsEdgesTest {
         share();
         nothingToUndo();
         eachChange();
+        eachChangeAlone();
         noChanges();
         nothingIsDifferent();
         theLatestEight();

@@ -60,6 +60,29 @@ public final class FaceTest {
         Check.due("the open methods", String.join("; ", open), String.join("; ", due));
     }
 
+    /** Rule 1 of LANGUAGE.md, for the classes inside, too. */
+    private static void privateNames() {
+        TreeSet<String> names = new TreeSet<>();
+        for (Method method : KiteWar.class.getDeclaredMethods()) {
+            if (Modifier.isPublic(method.getModifiers())) {
+                names.add(method.getName());
+            }
+        }
+        noneIsNamedAsOneOf(names, KiteWar.class);
+        for (Class<?> inside : KiteWar.class.getDeclaredClasses()) {
+            noneIsNamedAsOneOf(names, inside);
+        }
+    }
+
+    private static void noneIsNamedAsOneOf(TreeSet<String> names, Class<?> owner) {
+        for (Method method : owner.getDeclaredMethods()) {
+            boolean isOfTheFace = Modifier.isPublic(method.getModifiers());
+            String name = owner.getName() + "." + method.getName();
+            Check.due("whether " + name + " is named as one of the face",
+                    !isOfTheFace && names.contains(method.getName()) ? 1 : 0, 0);
+        }
+    }
+
     private static void constructors() {
         Constructor<?>[] made = KiteWar.class.getDeclaredConstructors();
         Check.due("the constructors", made.length, 1);
@@ -71,6 +94,7 @@ public final class FaceTest {
     public static void main(String[] args) {
         constants();
         methods();
+        privateNames();
         constructors();
         Check.end();
     }

@@ -6,11 +6,12 @@ public final class ModelTest {
     /** An object is used for at most 512 calls, of which the last ones ask for all that there is. */
     private static final int MOST_CALLS = 512;
     private static final int LAST_CALLS = 270;
-    /** No step makes more calls: a text of some 40 characters is the longest one. */
-    private static final int CALLS_OF_A_STEP = 50;
+    /** No step makes more calls: a text of 60 characters, one more, and what is done with it. */
+    private static final int CALLS_OF_A_STEP = 70;
     private static final String[] PIECES = {"0 ", "1 ", "2 ", "3 ", "5 ", "7 ", "fly ", "out", "in",
         "left", "right", "land", "wind ", "turn ", "*", ";", ";", "0", "1", "2", "3", "5", "x", "l"};
-    private static final int[] EDGES = {-1, 0, 6, 7, 10, 12, 37, Integer.MAX_VALUE, Integer.MIN_VALUE};
+    private static final int[] EDGES = 
+        {-1, 0, 1, 2, 3, 4, 5, 6, 7, 8, 9, 10, 11, 12, 18, 36, 37, Integer.MAX_VALUE, Integer.MIN_VALUE};
 
     private final Random random;
     private final KiteWar war = new KiteWar();
@@ -66,6 +67,27 @@ public final class ModelTest {
 
     private void append(int code) {
         due("append(" + code + ")", war.append(code), model.append(code));
+    }
+
+    private void fill() {
+        for (int length = model.account(16); length <= 60; length++) {
+            append(length % 7 == 6 ? ';' : "turn 1".charAt(length % 7));
+        }
+    }
+
+    /** Six towers in the middle of the field, and all the kites that they can have, which fly in the next turn. */
+    private void crowd(int strongest) {
+        for (int tower = 0; tower < 6; tower++) {
+            int hexagon = 9 + random.nextInt(19);
+            int reach = 1 + random.nextInt(4);
+            due("tower", war.tower(tower % 2, hexagon, reach), model.tower(tower % 2, hexagon, reach));
+        }
+        for (int kite = 0; kite < 12; kite++) {
+            int strength = 1 + random.nextInt(strongest);
+            due("kite", war.kite(kite / 2, strength), model.kite(kite / 2, strength));
+            int direction = random.nextInt(6);
+            due("slip", war.slip(kite, 1, direction), model.slip(kite, 1, direction));
+        }
     }
 
     private void build() {
@@ -150,7 +172,13 @@ public final class ModelTest {
         int one = number(37);
         int other = number(12);
         int what = number(20);
-        switch (random.nextInt(14)) {
+        switch (random.nextInt(16)) {
+            case 14:
+                due("crossings", war.crossings(), model.crossings());
+                break;
+            case 15:
+                due("crossingsAgain", war.crossingsAgain(), model.crossings());
+                break;
             case 0:
                 due("beside", war.beside(one, what), model.beside(one, what));
                 break;
@@ -186,6 +214,9 @@ public final class ModelTest {
                 due("tellKite", war.tellKite(other), model.tellKite(other));
                 break;
             case 11:
+                if (random.nextInt(8) == 0) {
+                    fill();
+                }
                 append(number(140));
                 break;
             case 12:
@@ -217,8 +248,9 @@ public final class ModelTest {
         due("reason(true)", war.reason(true), model.reason(true));
         due("windNow(true)", war.windNow(true), model.windNow(true));
         due("windNow(false)", war.windNow(false), model.windNow(false));
-        due("crossings()", war.crossings(), model.crossings());
         due("crossingsAgain()", war.crossingsAgain(), model.crossings());
+        due("tell(3)", war.tell(3), model.tell(3));
+        due("crossings()", war.crossings(), model.crossings());
         due("isBalanced()", war.isBalanced(), 1);
         due("meanStrength()", war.meanStrength(), model.meanStrength());
         due("lostShare()", war.lostShare(), model.lostShare());
@@ -247,12 +279,16 @@ public final class ModelTest {
     }
 
     private void play() {
-        for (int tower = 0; tower < 4; tower++) {
+        int kind = random.nextInt(3);
+        if (kind > 0) {
+            crowd(kind == 1 ? 9 : 3);
+        }
+        for (int tower = 0; tower < 4 && kind == 0; tower++) {
             build();
             bring();
         }
         int most = MOST_CALLS - LAST_CALLS - CALLS_OF_A_STEP;
-        int steps = 20 + random.nextInt(most - 20);
+        int steps = 40 + random.nextInt(most - 40);
         while (calls < steps) {
             if (random.nextInt(4) == 0) {
                 ask();

@@ -153,6 +153,46 @@ public final class TowersKitesWindsEdgesTest {
         Check.due("kiteOf(12, 0)", war.kiteOf(12, 0), KiteWar.NONE);
     }
 
+    private static KiteWar withTwelveKites() {
+        KiteWar war = new KiteWar();
+        for (int tower = 0; tower < 6; tower++) {
+            war.tower(tower % 2, 16 + tower, 3);
+            war.kite(tower, 9);
+            war.kite(tower, 9);
+        }
+        for (int wind = 0; wind < 6; wind++) {
+            war.wind(2, 0);
+        }
+        return war;
+    }
+
+    /** With 6 towers, 12 kites and 6 winds there is no room for more, and all that asks for them goes through all. */
+    private static void fullField() {
+        Check.sentence("Each tower has at most 2 kites");
+        KiteWar war = withTwelveKites();
+        for (int kite = 0; kite < 12; kite++) {
+            Check.due("slip(" + kite + ", 1, 2)", war.slip(kite, 1, 2), kite / 4 * 2 + kite % 2 + 1);
+        }
+        Check.due("crossings()", war.crossings(), 0);
+        Check.due("crossingsAgain()", war.crossingsAgain(), 0);
+        Check.due("turn(1)", war.turn(1), 0);
+        Check.accounts(war, 1, 6, 12, 0, 12, 0, 0, 0, 6, 0, 0, 0, 0, 0, 0, 0, 0, 8);
+        for (int tower = 0; tower < 6; tower++) {
+            Check.numbersOfTower(war, tower, tower % 2, 16 + tower, 3, 2, 2, 0);
+            Check.refused("kite(" + tower + ", 9)", war, war.kite(tower, 9), 1, 2);
+        }
+        Check.due("bestDirection(5)", war.bestDirection(5), 2);
+        Check.due("nearest(1, 36)", war.nearest(1, 36), 3);
+        Check.due("isBalanced()", war.isBalanced(), 1);
+        Check.due("meanStrength()", war.meanStrength(), 9.0);
+        Check.due("lostShare()", war.lostShare(), 0.0f);
+        Check.due("row 2", Check.row(war, 2), "0 2 4 6 8 10");
+        Check.due("row 3", Check.row(war, 3), ". A B A B A B");
+        Check.due("the kite 11", Check.kiteLine(war, 11), "k11 flies 2x1 s9");
+        Check.due("save()", war.save(), 12);
+        Check.due("restore()", war.restore(), 12);
+    }
+
     private static void strengths() {
         Check.sentence("each with a strength from 1 to 9");
         for (int strength : new int[] {0, -1, 10, 11, MIN, MAX}) {
@@ -500,6 +540,7 @@ public final class TowersKitesWindsEdgesTest {
         twoKites();
         twoKitesHoweverTheyAre();
         numbersOfKites();
+        fullField();
         strengths();
         codesOfKite();
         howAKiteIs();

@@ -140,6 +140,20 @@ public final class TurnEdgesTest {
         }
     }
 
+    /** A kite that flew before rests where it rested, if it can't fly once more. */
+    private static void notDoneBehindALanding() {
+        Check.sentence("What would bring a kite out of the field, or make the line longer than the reach, is not done.");
+        for (int landing : new int[] {3, 6}) {
+            KiteWar war = Check.alone(0, 0, 4, 5);
+            Check.order(war, 0, 1, 5);
+            Check.order(war, 0, landing, 0);
+            Check.numbersOfKite(war, 0, 0, 0, 0, NOTHING, 0, 0, 5, 0, 0);
+            Check.order(war, 0, 1, 2);
+            Check.due("account(15)", war.account(15), 1);
+            Check.numbersOfKite(war, 0, 0, 0, 0, NOTHING, 0, 0, 5, 0, 0);
+        }
+    }
+
     private static void notTurnedOutOfTheField() {
         Check.sentence("What would bring a kite out of the field, or make the line longer than the reach, is not done.");
         KiteWar war = Check.alone(0, 3, 4, 5);
@@ -786,6 +800,7 @@ public final class TurnEdgesTest {
         longerAndShorter();
         turnedOrLanded();
         notOutOfTheField();
+        notDoneBehindALanding();
         notTurnedOutOfTheField();
         notLongerThanTheReach();
         goneIfNotDone();
