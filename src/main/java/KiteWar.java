@@ -898,13 +898,14 @@ public final class KiteWar {
             return windCount;
         }
 
+        /** By floorMod, as no number of a turn may give an index below 0, not even one past the last int. */
         int directionAt(int turn) {
-            return windCount <= 0 ? 0 : windDirections[turn % windCount];
+            return windCount <= 0 ? 0 : windDirections[Math.floorMod(turn, windCount)];
         }
 
         /** Without winds it is as with one of the force 0. */
         int forceAt(int turn) {
-            return windCount <= 0 ? 0 : windForces[turn % windCount];
+            return windCount <= 0 ? 0 : windForces[Math.floorMod(turn, windCount)];
         }
 
         /** A negative number stands for no tower. */

@@ -1,8 +1,13 @@
+import java.io.IOException;
 import java.lang.reflect.Constructor;
 import java.lang.reflect.Field;
 import java.lang.reflect.Method;
 import java.lang.reflect.Modifier;
+import java.nio.file.Files;
+import java.nio.file.Path;
 import java.util.TreeSet;
+import java.util.regex.Matcher;
+import java.util.regex.Pattern;
 
 /** The public face and the constants: they are those of the document, and nothing else is open. */
 public final class FaceTest {
@@ -16,6 +21,16 @@ public final class FaceTest {
         "int tell(int)", "int tellKite(int)", "int character(int)", "int reason(boolean)",
         "int account(int)", "int isBalanced()", "double meanStrength()", "float lostShare()",
         "int undo()", "int save()", "int restore()"
+    };
+    /** The headings of the interface, each with the calls that it stands ahead of. */
+    private static final String[] HEADINGS = {
+        "---- the field: beside apart apartAgain",
+        "---- towers, kites, winds: tower kite wind windNow towerOf kiteOf",
+        "---- slips, turns: slip tear seen turn",
+        "---- what there is, and would be: crossings crossingsAgain driftsTo bestDirection nearest",
+        "---- texts, lines: append run tell tellKite character",
+        "---- reasons, accounts, undo and the snapshot: reason account isBalanced meanStrength lostShare"
+                + " undo save restore"
     };
     private static final String[] CONSTANTS = {"BAD", "FULL", "NONE", "NOTHING", "REFUSED"};
 
@@ -83,6 +98,17 @@ public final class FaceTest {
         }
     }
 
+    private static void headings(String source) {
+        Matcher found = Pattern.compile("^    // (---- .*)$|^    public \\w+ (\\w+)\\(", Pattern.MULTILINE).matcher(source);
+        StringBuilder face = new StringBuilder();
+        while (found.find()) {
+            boolean isCall = found.group(1) == null;
+            face.append(isCall ? " " + found.group(2) : "\n" + found.group(1) + ":");
+        }
+        String due = "\n" + String.join("\n", HEADINGS);
+        Check.due("the headings ahead of the calls", face.substring(0, Math.min(face.length(), due.length())), due);
+    }
+
     private static void constructors() {
         Constructor<?>[] made = KiteWar.class.getDeclaredConstructors();
         Check.due("the constructors", made.length, 1);
@@ -91,8 +117,9 @@ public final class FaceTest {
         Check.due("the class's access", Modifier.toString(KiteWar.class.getModifiers()), "public final");
     }
 
-    public static void main(String[] args) {
+    public static void main(String[] args) throws IOException {
         constants();
+        headings(Files.readString(Path.of(args[0])));
         methods();
         privateNames();
         constructors();

@@ -11,7 +11,9 @@ public final class LanguageTest {
         "->", "::", "\\binstanceof\\b", "\\b(System|Objects|Thread|Random|Collections)\\b",
         "\\bString\\.(format|valueOf|join)\\b", "\\w+Exact\\(", "\\b(equals|hashCode|toString)\\(",
         "\"\\s*\\+|\\+\\s*\"", "\\bMath\\.(random|sqrt|pow|floor|ceil|round)\\b", "[^\\x00-\\x7f]",
-        "^\\s*static\\s*\\{", "\\bstatic (?!final|int |long |boolean )", "\\t"
+        "^\\s*static\\s*\\{", "\\bstatic (?!final|int |long |boolean )", "\\t",
+        // a remainder may be below 0, and is no index
+        "\\[[^\\]]*%"
     };
 
     private static void look(String source, String ruledOut) {
